@@ -12,6 +12,7 @@ public final class PromisesTest {
     makers();
     tape();
     classes();
+    allGone();
     walks();
     whatItIs();
     lots();
@@ -108,6 +109,7 @@ public final class PromisesTest {
     Check.due("8: over one greater of two", x.jump(3142, 2, -2), -3);
     Check.due("8: out", x.jump(1234, 4, 1), -3);
     Check.due("8: far out", x.jump(1234, 4, MIN), -3);
+    Check.due("8: by N", x.jump(4123, 4, 4), -3);
     Check.due("8: no v", x.jump(1234, 0, MAX), -1);
     Check.due("8: v beyond", x.jump(1234, 5, 0), -1);
     Check.due("8: no row", x.jump(1233, 4, 9), -1);
@@ -221,6 +223,10 @@ public final class PromisesTest {
     Check.due("22: only blanks", x.text(0), -300);
     Check.due("22: used up", x.many(7), 0);
     Check.due("22: nothing on it", x.text(0), -100);
+    for (int i = 0; i < 25; i++) {
+      x.feed(0x3C3C3C3C3C3C3C3CL, 8);
+    }
+    Check.due("22: as many words as can be", x.text(0), -100);
     Check.feed(x, "left>0");
     Check.due("22", x.text(0), 5);
     Check.feed(x, "left > 0 and right>0");
@@ -259,7 +265,39 @@ public final class PromisesTest {
     Check.due("28: none at the top", x.rotate(4321, 0, 1), -3);
     Check.due("28: k", x.rotate(1234, -1, 1), -1);
     Check.due("28: way", x.rotate(1234, 9, -1), -1);
+    Check.due("28: way above", x.rotate(1234, 0, 2), -1);
+    Check.due("27: way below", x.rotations(1234, -1), -1);
     Check.due("28: no row", x.rotate(1, 0, 0), -1);
+  }
+
+  /** The longest ways down that there are: 15 swaps. */
+  private static void allGone() {
+    CoarserOrders x = fresh(6);
+    Check.due("17: all of six", x.collapse(654321, 123456), 57);
+    Check.due("24: least of all", x.alike(654321, 0), 123456);
+    Check.due("24: greatest of all", x.alike(123456, 1), 654321);
+    Check.due("24: all alike", x.alike(314256, 2), 720);
+    Check.due("49: one class", x.many(3), 1);
+    Check.due("49: none right under", x.many(4), 0);
+    Check.due("27: none under", x.rotations(314256, 0), 0);
+    Check.due("27: none over", x.rotations(314256, 1), 0);
+    Check.due("25: it", x.classAt(0), 123456);
+    Check.due("25: no other", x.classAt(1), -1);
+    Check.due("36: as many steps as can be", x.prove(654321), 15);
+    Check.due("37: the last row", x.step(14, 0), 123456);
+    Check.due("37: no more", x.step(15, 0), -9);
+    Check.due("39: right", x.judge(654321), 0);
+    x.alterStep(14, 0, 123465);
+    Check.due("39: the last is not", x.judge(654321), 15);
+    CoarserOrders five = fresh(5);
+    for (int arc = 0; arc < 26; arc++) {
+      five.contract(arc);
+    }
+    Check.due("29: one class", five.apart(12345, 54321), 0);
+    Check.due("30: no step", five.wayUp(1), 0);
+    Check.due("31: the first", five.listed(0), 12345);
+    Check.due("31: no other", five.listed(1), -3);
+    Check.due("32: one with all that are gone", five.closed(1), 1);
   }
 
   private static void walks() {
