@@ -7,9 +7,10 @@ public final class CoarserOrders {
   private static final int NO_STEP = -9, NOTHING = -11, OUTSIDE = -12, UNLIKE = -13;
   private static final int BELOW_ZERO = -14, PARTED = -15, FAULTY = -100;
   private static final int MOST_N = 6, FIRST_N = 4, MOST_SWAPPED = 15, MOST_DRAWN = 60;
-  /** Above this N the whole order is refused (STATE); MOST_ROWS are its ROWS. */
+  /** Above this N it is refused (STATE) to walk through all CLASSES; it has MOST_ROWS. */
   private static final int WALKED_N = 5, MOST_ROWS = 120;
   private static final int PLAIN = 0, LEFTY = 1, LONGER = 2, BOTH = 3, SIGNED = 4, MIXED = 5;
+  /** EMS: how many values m may have. */
   private static final int KINDS = 6, EMS = 16, MOST_MAKERS = 6;
   private static final int ONLY_THESE = 0, THESE_TOO = 1, THESE_OF_GONE = 2;
   private static final int[] TENS = {1, 10, 100, 1000, 10000, 100000, 1000000};

@@ -498,6 +498,7 @@ public final class PromisesTest {
     Check.due("43: to another", x.move(0, 2, 1, 1, 2), 2);
     Check.due("43: came", x.item(1, 0, 2), 4);
     Check.due("43: not ahead", x.item(1, 0, 0), 0);
+    Check.due("43: a whole one", x.move(1, 0, 1, 0, 3), 3);
     Check.due("43: none at the ends", x.move(0, 6, 1, 3, 0), 0);
     Check.due("43: none beyond an end", x.move(0, 7, 1, 3, 0), -12);
     Check.due("43: beyond the other's", x.move(0, 0, 1, 2, 2), -12);

@@ -49,6 +49,10 @@ public final class TextTest {
     fault("12 13<low", 3);
     fault("lowlow<1", 0);
     fault("Low<1", 0);
+    fault("lowz<1", 0);
+    fault("lowa<1", 0);
+    fault("low`<1", 3);
+    fault("low{<1", 3);
     fault("low<1)", 5);
     fault("(low<1", 6);
     fault("()", 1);
