@@ -297,6 +297,14 @@ public final class GoneEdgesTest extends Edges {
     due("it takes bytes again", x.feed(BLANKS, 8), 8);
     x.text(0);
     due("used up by a fault, too", x.many(7), 0);
+    Check.feed(x, "low=12");
+    x.text(0);
+    Check.feed(x, "low=1");
+    due("nothing of an earlier one stays: digits", x.text(0), 7);
+    Check.feed(x, "3=lower");
+    x.text(0);
+    Check.feed(x, "3=low");
+    due("nothing of an earlier one stays: letters", x.text(0), 7);
   }
 
   private static void feed() {

@@ -140,6 +140,9 @@ public final class RowEdgesTest extends Edges {
     due("4 is left, and not between", x.arc(4312, 1), 1);
     due("1 is left, and not between", x.arc(1423, 1), 8);
     due("of neighbours none is between", x.arc(4132, 2), 7);
+    due("2 and 3 are left of 41", x.arc(2341, 2), 6);
+    due("2 is left, 3 is right of 41", x.arc(2413, 1), 4);
+    due("3 is left, 2 is right of 14", x.arc(3142, 1), 5);
   }
 
   private static void numbersOfArcs() {
@@ -160,6 +163,7 @@ public final class RowEdgesTest extends Edges {
       due("none behind them", x.arcIs(arc, 0), -1);
     }
     due("bit 0: 2 is left of 51", fresh(5).arcIs(fresh(5).arc(25134, 1), 2), 1);
+    due("bits 0 and 2: 2 and 4 are left of 51", fresh(5).arcIs(fresh(5).arc(24513, 2), 2), 5);
     due("bit 2: 4 is left of 51", fresh(5).arcIs(fresh(5).arc(45123, 1), 2), 4);
   }
 
