@@ -1089,7 +1089,7 @@ public final class CoarserOrders {
       queue[0] = rows.leastOf(row, gone);
       steps[queue[0]] = 0;
       int queued = 1;
-      for (int i = 0; i < queued && steps[to] < 0; i++) {
+      for (int i = 0; i < MOST_ROWS && i < queued && steps[to] < 0; i++) {
         queued = reach(queue[i], findNear(rows, gone, queue[i], 0), queued);
         queued = reach(queue[i], findNear(rows, gone, queue[i], 1), queued);
       }

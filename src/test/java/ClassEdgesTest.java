@@ -8,6 +8,7 @@ public final class ClassEdgesTest extends Edges {
   public static void main(String[] args) {
     alikeRows();
     alike();
+    aClass();
     classAt();
     under();
     classes();
@@ -60,6 +61,16 @@ public final class ClassEdgesTest extends Edges {
     due("of the greatest itself", pentagon().alike(231, 1), 231);
     due("of one in the midst", allGone(5).alike(31425, 0), 12345);
     due("of one in the midst", allGone(5).alike(31425, 1), 54321);
+  }
+
+  private static void aClass() {
+    term("A CLASS: all that are ALIKE; it is told by its LEAST one.");
+    CoarserOrders x = pentagon();
+    due("one of two", x.classAt(2), 213);
+    due("as many as are left", x.many(3), 5);
+    due("one of one", x.classAt(0), 123);
+    due("as many as rows, where none is gone", fresh(6).many(3), 720);
+    due("one, where all are gone", allGone(6).many(3), 1);
   }
 
   private static void alike() {
@@ -276,10 +287,10 @@ public final class ClassEdgesTest extends Edges {
       due("of " + n, fresh(n).listed(0), FIRST_ROWS[n]);
       due("of " + n + ", all alike", allGone(n).listed(0), FIRST_ROWS[n]);
     }
-    term("for v = N, N - 1, .. 2: first to the left, then to the right:");
+    term("Then, from the ROW that came last, for v = N, N - 1, .. 2: first to the left, then to the right:");
     dueList(fresh(3), 123, 132, 312, 321, 231, 213);
     dueList(fresh(2), 12, 21);
-    term("the nearest that gives a ROW that is LEAST of itself;");
+    term("of the JUMPS of v that way that may be (by 1, 2, .. places) the nearest that gives a ROW that is LEAST of itself;");
     dueList(pentagon(), 123, 132, 312, 321, 213);
     CoarserOrders x = fresh(3);
     x.contract(1);

@@ -164,6 +164,13 @@ public final class GoneEdgesTest extends Edges {
 
   /** 1 4 with none, 2, 3, both LEFT are ARCS 3 to 6; 1 3 are 1, 2; 2 4 are 8, 9; neighbours 0, 7, 10. */
   private static void takes() {
+    term("KINDS: 0 plain; 1 lefty, 2 longer (under plain); 3 both, 4 signed (under lefty); 5 mixed (under longer).");
+    int[] many = {0, 5, 8, 2, 5, 8};
+    for (int kind = 0; kind < 6; kind++) {
+      CoarserOrders of = fresh(4);
+      of.maker(kind, 1);
+      due("kind " + kind + ", m 1", of.makerIs(0, 2), many[kind]);
+    }
     term("plain: no.");
     due(4, PLAIN, 0);
     due(6, PLAIN, 15);
@@ -229,7 +236,8 @@ public final class GoneEdgesTest extends Edges {
   }
 
   private static void how() {
-    term("with all that they FORCE: 0 they are GONE, and no others;");
+    term("HOW ARCS come that are TAKEN (by a MAKER, or those for which the TEXT holds), with all that they FORCE: "
+        + "0 they are GONE, and no others;");
     CoarserOrders x = fresh(4);
     x.maker(LEFTY, 0);
     x.maker(PLAIN, 0);

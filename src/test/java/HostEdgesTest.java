@@ -469,23 +469,31 @@ public final class HostEdgesTest extends Edges {
   private static void superBodies() {
     term("turns(..) and so on: the body of its own KIND, or of the next KIND above that has one; super: from the KIND above "
         + "the body's on.");
+    CoarserOrders under = withMaker(5, 1, 3);
+    dueAct(under, TURNS, 4, 21, 10);
+    dueAct(under, BENDS, 4, 18 * 3, 30, 11, 10);
+    term("lefty: 20 turns: super.turns(x) ^ 9.");
     CoarserOrders lefty = withMaker(1, 1, 3);
     dueAct(lefty, TURNS, 4, 21 ^ 9, 20, 10);
     dueAct(lefty, BENDS, 4, (21 ^ 9) - 3, 11, 20, 10);
     dueAct(lefty, PARTS, 9, 4, 12);
     dueAct(lefty, JOINS, 4, ((21 ^ 9) - 3) ^ 2, 13, 11, 20, 10, 12);
+    term("longer: 30 bends: super.bends(x) * 3. 31 parts: super.parts(x) + turns(n).");
     CoarserOrders longer = withMaker(2, 1, 3);
     dueAct(longer, TURNS, 4, 21, 10);
     dueAct(longer, BENDS, 4, 18 * 3, 30, 11, 10);
     dueAct(longer, PARTS, 9, 4 + 6, 31, 12, 10);
     dueAct(longer, JOINS, 8, 38 * 3 ^ 4 + 6, 13, 30, 11, 10, 31, 12, 10);
+    term("both: 40 turns: 0 - super.turns(x + 2).");
     CoarserOrders both = withMaker(3, 1, 3);
     dueAct(both, TURNS, 4, -(31 ^ 9), 40, 20, 10);
     dueAct(both, BENDS, 4, -(31 ^ 9) - 3, 11, 40, 20, 10);
     dueAct(both, JOINS, 4, (-(31 ^ 9) - 3) ^ 2, 13, 11, 40, 20, 10, 12);
+    term("signed: 50 joins: super.joins(x) - bends(m).");
     CoarserOrders signed = withMaker(4, 1, 3);
     dueAct(signed, TURNS, 4, 21 ^ 9, 20, 10);
     dueAct(signed, JOINS, 4, (((21 ^ 9) - 3) ^ 2) - ((16 ^ 9) - 3), 50, 13, 11, 20, 10, 12, 11, 20, 10);
+    term("mixed: 60 parts: super.parts(x - m) ^ 5. 61 joins: super.joins(x) + bends(1).");
     CoarserOrders mixed = withMaker(5, 1, 3);
     dueAct(mixed, TURNS, 4, 21, 10);
     dueAct(mixed, BENDS, 4, 18 * 3, 30, 11, 10);

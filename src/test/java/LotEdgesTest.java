@@ -154,6 +154,9 @@ public final class LotEdgesTest extends Edges {
     dueSteps(x, 231, 3, 213, 2, 123, 0);
     x.prove(132);
     dueSteps(x, 123, 3);
+    term("STEPS of them: (the ROW that came, the ARC).");
+    due("the row that came", proved().step(0, 0), 312);
+    due("the arc", proved().step(1, 1), 1);
     term("again and again, till there is none.");
     due("none from the first", x.prove(123), 0);
     dueSteps(x);
