@@ -42,7 +42,8 @@ public final class ClassEdgesTest extends Edges {
   }
 
   private static void alikeRows() {
-    term("if one comes from the other by swaps of two numbers BESIDE one another (at places p, p + 1), none or more,");
+    term("Two ROWS are ALIKE, if one comes from the other by swaps of two numbers BESIDE one another (at places p, p + 1), "
+        + "none or more,");
     for (int n = 1; n <= 6; n++) {
       CoarserOrders x = fresh(n);
       due("by none: alone in " + n, x.alike(LAST_ROWS[n], 2), 1);
@@ -381,7 +382,8 @@ public final class ClassEdgesTest extends Edges {
     dueThrees("told the other way", 42, 16, 231, 213, 1);
     dueThrees("a row and itself", 96, 0, 321, 321, 1);
     dueThrees("a row and itself, not", 0, -3, 321, 321, 0);
-    term("just what such a MAKER TAKES being GONE, and what that FORCES, all threes are so");
+    term("Those KINDS (0 to 5) and m (0 to 15) by which, just what such a MAKER TAKES being GONE, and what that FORCES, "
+        + "all threes are so");
     dueThrees("two threes", 4, 32, 213, 231, 1, 132, 312, 1);
     dueThrees("only by signed ones", 8, 65, 132, 312, 1, 213, 231, 0);
     dueThrees("by what is forced", 2, 32, 123, 213, 1);

@@ -171,7 +171,7 @@ public final class GoneEdgesTest extends Edges {
       of.maker(kind, 1);
       due("kind " + kind + ", m 1", of.makerIs(0, 2), many[kind]);
     }
-    term("plain: no.");
+    term("TAKES (an ARC a, b; l: how many are LEFT, r: how many between are not): plain: no.");
     due(4, PLAIN, 0);
     due(6, PLAIN, 15);
     term("lefty: if l is above 0.");

@@ -352,7 +352,7 @@ public final class HostEdgesTest extends Edges {
   }
 
   private static void taken() {
-    promise(46, "taken for a MAKER of KIND as (0 to 5, or one under it): its number;");
+    promise(46, "What a SHELF holds taken for a MAKER of KIND as (0 to 5, or one under it): its number;");
     boolean[][] isUnder = {
       {true, false, false, false, false, false}, {true, true, false, false, false, false},
       {true, false, true, false, false, false}, {true, true, false, true, false, false},
@@ -437,7 +437,7 @@ public final class HostEdgesTest extends Edges {
   }
 
   private static void wrapping() {
-    term("with a number x (ints that wrap): 0 turns, 1 bends, 2 parts, 3 joins; n: its number.");
+    term("ACTS of a MAKER by its KIND, with a number x (ints that wrap): 0 turns, 1 bends, 2 parts, 3 joins; n: its number.");
     dueAct(withMaker(0, 0, 3), TURNS, MAX, 2147483643, 10);
     dueAct(withMaker(0, 5, 3), TURNS, MAX, -2147483648, 10);
     dueAct(withMaker(0, 0, 3), BENDS, MIN, 2147483645, 11, 10);
@@ -519,7 +519,7 @@ public final class HostEdgesTest extends Edges {
   }
 
   private static void act() {
-    promise(47, "0, and no TRACE then: no such SHELF, act, nothing, a row.");
+    promise(47, "An ACT (0 to 3) of the MAKER on a SHELF, with x. 0, and no TRACE then: no such SHELF, act, nothing, a row.");
     for (int shelf : NONE_OF_FOUR) {
       noAct("shelf " + shelf, shelf, 0);
     }

@@ -130,8 +130,13 @@ public final class RowEdgesTest extends Edges {
     }
     due("at place 0", fresh(4).of(2134, 1), 1);
     due("at place N - 2", fresh(4).of(1243, 1), 4);
-    term("The ARC of a DROP, of a RISE: a, b are its two numbers, the lesser first;");
+    term("An ARC is two numbers a < b, and of each number between them (in worth) whether it is LEFT or not.");
     CoarserOrders x = fresh(4);
+    due("of neighbours there is one", x.arcIs(x.arc(1234, 1), 0) * 10 + x.arcIs(x.arc(1234, 1) + 1, 0), 22);
+    due("the same two numbers with another left are another", x.arc(2314, 1) == x.arc(3124, 0) ? 1 : 0, 0);
+    due("a drop and a rise of the same are the same", x.arc(2314, 1) == x.arc(2134, 1) ? 1 : 0, 1);
+    due("4 is not between 1 and 3, wherever it stands", x.arc(4231, 2) == x.arc(2314, 1) ? 1 : 0, 1);
+    term("The ARC of a DROP, of a RISE: a, b are its two numbers, the lesser first;");
     due("of the drop 31: 1 3 with none left", x.arc(3124, 0), 1);
     due("of the rise 13", x.arc(1324, 0), 1);
     term("LEFT are those between that stand left of both.");

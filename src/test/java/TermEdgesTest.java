@@ -23,8 +23,8 @@ public final class TermEdgesTest extends Edges {
     refused("full tape", TermEdgesTest::full, x -> x.feed(0, 1), -2);
     refused("none", x -> x.trace(30), -3);
     refused("state", () -> busy(6), x -> x.closed(0), -4);
-    term("-11 nothing where something is asked, -12 a place outside, -13 a thing of another sort or kind, "
-        + "-14 a size below 0, -15 parted by 0.");
+    term("and what the host refuses: -11 nothing where something is asked, -12 a place outside, "
+        + "-13 a thing of another sort or kind, -14 a size below 0, -15 parted by 0.");
     refused("nothing", x -> x.item(3, 0, 0), -11);
     refused("nothing on a shelf", x -> x.taken(3, 0), -11);
     refused("a place outside", x -> x.item(0, 0, 5), -12);
